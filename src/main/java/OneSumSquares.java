@@ -49,7 +49,7 @@ public final class OneSumSquares {
     private final Square[] squares = new Square[SQUARES];
     private final Square draft = new Square();
     private final Square half = new Square();
-    private final boolean[] seen = new boolean[SQUARE_ROOM + 1];
+    private final int[] seen = new int[SQUARE_ROOM + 1];
     private final Finder finder = new Finder();
     private final int[] blamed = new int[MOST_CAUSE + 1];
     private int latest = 0;
@@ -196,7 +196,7 @@ public final class OneSumSquares {
         if (known == null) {
             return UNKNOWN;
         }
-        if (kind != EVEN && kind != WHOLE && kind != ROUND || !isPower(power)) {
+        if ((kind != EVEN && kind != WHOLE && kind != ROUND) || !isPower(power)) {
             return OUTSIDE;
         }
         return known.oddLine(kind, power);
@@ -636,20 +636,20 @@ public final class OneSumSquares {
             return true;
         }
 
-        boolean isPlain(boolean[] seen) {
+        boolean isPlain(int[] seen) {
             int cells = order * order;
-            Arrays.fill(seen, false);
+            Arrays.fill(seen, 0);
             for (int i = 0; i < cells; i++) {
                 int number = numbers[i];
-                if (number < 1 || number > cells || seen[number]) {
+                if (number < 1 || number > cells || seen[number] != 0) {
                     return false;
                 }
-                seen[number] = true;
+                seen[number] = 1;
             }
             return true;
         }
 
-        int kindBits(boolean[] seen) {
+        int kindBits(int[] seen) {
             int bits = isPlain(seen) ? PLAIN : 0;
             if (!isAll(EVEN, 1)) {
                 return bits;
@@ -673,27 +673,28 @@ public final class OneSumSquares {
 
         // ---- turns
 
-        // What stands at (i, j) of what a turn makes; 4 to 7 read the columns as rows.
+        // What stands at (i, j) of what a turn makes.
         int afterTurn(int t, int i, int j) {
             int last = order - 1;
-            switch (t) {
+            int row = i;
+            int column = j;
+            switch (t & 3) {
                 case 1:
-                    return number(last - j, i);
+                    row = last - j;
+                    column = i;
+                    break;
                 case 2:
-                    return number(last - i, last - j);
+                    row = last - i;
+                    column = last - j;
+                    break;
                 case 3:
-                    return number(j, last - i);
-                case 4:
-                    return number(j, i);
-                case 5:
-                    return number(i, last - j);
-                case 6:
-                    return number(last - j, last - i);
-                case 7:
-                    return number(last - i, j);
+                    row = j;
+                    column = last - i;
+                    break;
                 default:
-                    return number(i, j);
+                    break;
             }
+            return t < 4 ? numbers[row * order + column] : numbers[column * order + row];
         }
 
         // Below 0, 0 or above 0, as this one by a turn is less than, like or more than another one of
@@ -937,7 +938,7 @@ public final class OneSumSquares {
         }
 
         boolean isFree(int number) {
-            return number >= 1 && number <= cells && (used & 1 << number) == 0;
+            return number >= 1 && number <= cells && (used & (1 << number)) == 0;
         }
 
         // A held number counts as used from the start, so that no other place takes it.
@@ -947,7 +948,7 @@ public final class OneSumSquares {
 
         private static void layFrom(Finder f, int step) {
             if (step >= f.cells) {
-                f.record();
+                f.keepTrial();
                 return;
             }
             int cell = f.plan[STEP * step];
@@ -976,16 +977,11 @@ public final class OneSumSquares {
             return left;
         }
 
-        // The plan leaves some lines unlooked at, for some orders.
-        boolean isAsked() {
-            if (!trial.isAll((asked & ROUND) != 0 ? ROUND : WHOLE, 1)) {
-                return false;
-            }
-            return (asked & PAIRED) == 0 || trial.isPaired();
-        }
-
-        void record() {
-            if (!isAsked() || !hasRoom()) {
+        // The plan leaves some lines unlooked at, so the whole square is looked at once more.
+        void keepTrial() {
+            int lines = (asked & ROUND) != 0 ? ROUND : WHOLE;
+            boolean unpaired = (asked & PAIRED) != 0 && !trial.isPaired();
+            if (unpaired || trial.oddLine(lines, 1) != NONE || !hasRoom()) {
                 return;
             }
             long key = packed(trial);
@@ -1013,7 +1009,7 @@ public final class OneSumSquares {
             long key = 0L;
             int cells = square.order * square.order;
             for (int i = 0; i < cells; i++) {
-                key = key << 4 | square.numbers[i] - 1;
+                key = (key << 4) | (square.numbers[i] - 1);
             }
             return key ^ Long.MIN_VALUE;
         }
@@ -1034,7 +1030,7 @@ public final class OneSumSquares {
             long key = packed(square);
             int low = 0;
             int high = size - 1;
-            while (low <= high) {
+            for (int tries = 0; low <= high && tries < SOUGHT_ROOM; tries++) {
                 int middle = (low + high) / 2;
                 if (keys[middle] == key) {
                     return middle;
