@@ -634,6 +634,11 @@ public final class PromiseTests {
         due("23 three are not", x.seek(0, 4, 0), 0);
         due("23 nor are they later", x.seek(0, 4, 0), 0);
         due("30 three count", x.count(2), 3);
+        x.sheet(0, 2, 17);
+        x.put(0, 2, 16, 1);
+        x.put(0, 2, 0, 1);
+        x.put(0, 2, 1, 1);
+        due("23 what is behind the first 16 is not held", x.seek(0, 4, 0), ST);
         orderOfAll();
     }
 
@@ -710,6 +715,11 @@ public final class PromiseTests {
         // Four bits of these numbers are as those of a square found.
         due("27 far", x.place(lay(x, 3, 18, 7, 6, 9, 5, 1, 4, 3, 8)), -1);
         due("27 far below", x.place(lay(x, 3, 2 - 16, 7, 6, 9, 5, 1, 4, 3, 8)), -1);
+        due("27 far, behind an even one", x.place(lay(x, 3, 2, 7 + 16, 6, 9, 5, 1, 4, 3, 8)), -1);
+        x.seek(0, 1, 0);
+        due("27 one", x.place(lay(x, 1, 1)), 0);
+        due("27 ones of another order", x.place(lay(x, 2, 1, 1, 1, 1)), -1);
+        due("27 a former one", x.place(0), -1);
     }
 
     private static void causesAndCounts() {
