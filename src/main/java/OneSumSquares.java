@@ -22,6 +22,7 @@ public final class OneSumSquares {
 
     private static final int SOUGHT_ORDER = 4, SOUGHT_CELLS = 16, SOUGHT_ROOM = 8192, FIRST_ROOM = 32;
     private static final int MOST_SEEKS = 12, FEW_HELD = 3;
+    private static final long SIGN = 1L << 63;
 
     // A plan is a row of steps of four: a place, and the places that with it make up a known sum
     // (-1: none). A place with no such others is tried with every number.
@@ -1011,12 +1012,12 @@ public final class OneSumSquares {
             for (int i = 0; i < cells; i++) {
                 key = (key << 4) | (square.numbers[i] - 1);
             }
-            return key ^ Long.MIN_VALUE;
+            return key ^ SIGN;
         }
 
         void unpack(int k, Square into) {
             into.clear(order);
-            long key = keys[k] ^ Long.MIN_VALUE;
+            long key = keys[k] ^ SIGN;
             for (int i = cells - 1; i >= 0; i--) {
                 into.numbers[i] = (int) (key & 15L) + 1;
                 key >>>= 4;

@@ -6,7 +6,9 @@ import java.lang.reflect.Modifier;
 import java.nio.file.Files;
 import java.nio.file.Path;
 import java.util.Arrays;
+import java.util.Map;
 import java.util.Set;
+import java.util.TreeMap;
 import java.util.TreeSet;
 import java.util.regex.Matcher;
 import java.util.regex.Pattern;
@@ -21,12 +23,21 @@ public final class LanguageTests {
         "int causes 1", "int count 1", "long digest 0"};
     private static final String[] BANNED = {"throw", "throws", "try", "catch", "synchronized", "assert", "->", "::",
         "protected", "volatile", "native", "hashCode", "toString", "Exact", "System.out", "boolean[]", "Object"};
+    // Rule 4, so far as the class needs it: any other name of the library, a constant too, is not there.
+    private static final Set<String> LIBRARY = Set.of("System.arraycopy", "Arrays.fill", "Arrays.copyOf",
+        "Arrays.copyOfRange", "Math.min", "Math.max", "Math.abs", "Math.floorMod", "Math.floorDiv");
+    private static final Set<String> TYPES = Set.of("int", "long", "short", "byte", "char", "boolean", "String");
+    private static final int DEEPEST = 8;
     private static int wrong = 0;
 
     public static void main(String[] args) throws IOException {
         face();
         insides();
-        text(Files.readString(Path.of("src/main/java/OneSumSquares.java")));
+        String whole = Files.readString(Path.of("src/main/java/OneSumSquares.java"));
+        text(whole);
+        String code = bare(whole);
+        library(code);
+        depth(bodies(code));
         System.out.println(wrong == 0 ? "all rules are kept" : wrong + " rules are not kept");
         if (wrong != 0) {
             System.exit(1);
@@ -84,7 +95,7 @@ public final class LanguageTests {
     }
 
     private static void text(String whole) {
-        String code = whole.replaceAll("(?s)/\\*.*?\\*/", "").replaceAll("//[^\n]*", "");
+        String code = bare(whole);
         for (String word : BANNED) {
             boolean isName = Character.isLetter(word.charAt(0)) && Character.isLetter(word.charAt(word.length() - 1));
             Matcher m = Pattern.compile(isName && !word.equals("Exact") ? "\\b" + Pattern.quote(word) + "\\b"
@@ -105,5 +116,71 @@ public final class LanguageTests {
                 due(i - start <= 60, "long method at line " + (start + 1));
             }
         }
+    }
+
+    private static String bare(String whole) {
+        return whole.replaceAll("(?s)/\\*.*?\\*/", "").replaceAll("//[^\n]*", "");
+    }
+
+    // Every name that begins as a class's does is one of the class's own, or of what rule 4 lists.
+    private static void library(String code) {
+        String calls = code.replaceAll("import [^\n]*", "");
+        Set<String> own = new TreeSet<>();
+        Matcher classes = Pattern.compile("\\bclass (\\w+)").matcher(calls);
+        while (classes.find()) {
+            own.add(classes.group(1));
+        }
+        due(own.size() <= 12, "classes: " + own);
+        Matcher names = Pattern.compile("(?<![\\w.])([A-Z]\\w*[a-z]\\w*)(\\.\\w+)?").matcher(calls);
+        while (names.find()) {
+            due(own.contains(names.group(1)) || LIBRARY.contains(names.group()), "not listed: " + names.group());
+        }
+        Matcher statics = Pattern.compile("static final (\\w+)(\\[\\])* \\w+ =").matcher(calls);
+        while (statics.find()) {
+            due(TYPES.contains(statics.group(1)), "a static field: " + statics.group());
+        }
+    }
+
+    // The methods by name, each with what stands between its braces. No name stands in two classes.
+    private static Map<String, String> bodies(String code) {
+        Map<String, String> bodies = new TreeMap<>();
+        Matcher heads = Pattern.compile("(?m)^ {4,8}[\\w\\[\\] ]*?(\\w+)\\([^()]*\\) \\{\\n").matcher(code);
+        while (heads.find()) {
+            String indent = heads.group().replaceAll("(?s)\\S.*", "");
+            int end = code.indexOf("\n" + indent + "}", heads.end() - 1);
+            due(end >= 0 && !bodies.containsKey(heads.group(1)), "a name of two methods: " + heads.group(1));
+            bodies.put(heads.group(1), code.substring(heads.end() - 1, Math.max(heads.end() - 1, end)));
+        }
+        due(bodies.size() > 80, "methods seen: " + bodies.size());
+        return bodies;
+    }
+
+    // Rules 8, 11: the one that calls itself alone is layFrom(), and no chain of others is long.
+    private static void depth(Map<String, String> bodies) {
+        Map<String, Set<String>> called = new TreeMap<>();
+        bodies.forEach((name, body) -> {
+            Set<String> names = new TreeSet<>();
+            Matcher calls = Pattern.compile("(\\w+)\\(").matcher(body);
+            while (calls.find()) {
+                if (bodies.containsKey(calls.group(1))) {
+                    names.add(calls.group(1));
+                }
+            }
+            due(!names.remove(name) || name.equals("layFrom"), "calls itself: " + name);
+            called.put(name, names);
+        });
+        for (String name : bodies.keySet()) {
+            int deep = deep(called, name, 0);
+            due(deep <= DEEPEST, "calls behind " + name + ": " + deep);
+        }
+    }
+
+    private static int deep(Map<String, Set<String>> called, String name, int above) {
+        int most = above + 1;
+        for (String next : called.get(name)) {
+            // A ring of methods would go on for ever: it is told by its depth.
+            most = Math.max(most, most > 2 * DEEPEST ? most : deep(called, next, above + 1));
+        }
+        return most;
     }
 }
